@@ -124,6 +124,14 @@ public final class HouseTest {
         fault("cold 1;;", 7);
         fault("cold 1; 7", 8);
         fault("colds 1;", 0);
+        fault("colda 1;", 0);
+        fault("coldz 1;", 0);
+        fault("bold 1;", 0);
+        fault("gur 1;", 0);
+        fault("roughs 1;", 0);
+        fault("nember 1 1;", 0);
+        fault("member 1 1;member 1 1;beconds 0 1;", 22);
+        fault("colt 1;", 0);
         fault("col 1;", 0);
         fault("memberfur 1;", 0);
         fault("fur 1;furcold 1;", 6);
@@ -137,6 +145,8 @@ public final class HouseTest {
         fault("cold\u00e9 1;", 4);
         fault("\u00ff", 0);
         fault("cold \u0000;", 5);
+        fault("\u0000", 0);
+        fault("cold 1;\u0000", 7);
         fault("cold `;", 5);
         fault("cold {;", 5);
         fault("cold /;", 5);
@@ -243,6 +253,7 @@ public final class HouseTest {
         x.lot(99);
         x.speaks(0, 1);
         x.lining();
+        x.keep(0);
         x.keep(1);
         x.saw(1, 1);
         x.rate(0, 0);
@@ -259,12 +270,32 @@ public final class HouseTest {
         due("THE TEXT is empty", x.count(4), 0);
         due("WARMTH", x.member(0, 0), 9);
         due("SIDE", x.member(0, 1), 0);
+        due("back(0)", x.back(0), LastCoat.STATE);
         due("back(1)", x.back(1), LastCoat.STATE);
         due("undo()", x.undo(), LastCoat.STATE);
         due("THE TRACE goes on", x.trace(), 1);
         due("THE LOT stays", x.lot(1), 99);
         due("house() of nothing", x.house(), 0);
         due("MEMBERS of nothing", x.count(0), 0);
+        readingsLeaveNothing();
+    }
+
+    /** However often an object was told, nothing of what it was told before is left, of faults neither. */
+    private static void readingsLeaveNothing() {
+        LastCoat x = new LastCoat();
+        for (int i = 1; i <= 4; i++) {
+            due("house() " + i, Checks.house(x, "member 7 1;member 9 1;seconds 1 0;cold 3;fur 4;coughs 5;"), 6);
+            due("house() at fault " + i, Checks.house(x, "member 9 1;member 9 1;seconds 0 1;cold 2;cold 2;"), -51);
+            due("house() " + i + ", less", Checks.house(x, "member 4 0;member 4 0;"), 2);
+            due("WARMTH", x.member(0, 0), 4);
+            due("WARMTH", x.member(1, 0), 4);
+            due("SIDE", x.member(0, 1) + x.member(1, 1), 0);
+            due("who seconds", x.member(0, 3) + x.member(1, 3), 0);
+            due("SECONDS", x.count(1), 0);
+            due("COLD", x.told(0), 1);
+            due("FUR", x.told(1), 1);
+            due("COUGHS", x.told(2), 0);
+        }
     }
 
     private static void membersAnswers() {
