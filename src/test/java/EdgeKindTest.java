@@ -30,6 +30,7 @@ public final class EdgeKindTest {
         nothingUndoneBehindBack();
         keepChangesNothingElse();
         readAnewIsAsTold();
+        readAnewLeavesNothingToldBefore();
         readAnewTheLotStays();
         readAnewImagesAreGone();
         readAnewNothingUndone();
@@ -352,6 +353,23 @@ public final class EdgeKindTest {
                 LastCoat other = new LastCoat();
                 due("house() of '" + text + "'", items, Checks.house(other, text));
                 TWINS.same("read anew: '" + text + "'", x, other);
+            }
+        }
+    }
+
+    // "as told (what is not told as at first)": whatever was told before, and before that, at fault, too
+    private static void readAnewLeavesNothingToldBefore() {
+        String[] texts = {"", "member 3 0;", Twins.ALL, Twins.ALL + "cold", "member 20 1;member 16 1;seconds 0 1;",
+            "member 8 0;member 4 0;seconds 1 0;cold 5;fur 4;coughs 9;;", "cold 4;fur 3;coughs 6;"};
+        for (String first : texts) {
+            for (String second : texts) {
+                for (String third : new String[] {"", "member 3 0;member 1 0;", "member 1 0;fur 0;member 2 1;"}) {
+                    LastCoat x = new LastCoat();
+                    Checks.house(x, first);
+                    Checks.house(x, second);
+                    due("house() of '" + third + "'", Checks.house(x, third), Checks.house(new LastCoat(), third));
+                    TWINS.same("read anew: '" + first + "', '" + second + "', '" + third + "'", x, Checks.told(third));
+                }
             }
         }
     }

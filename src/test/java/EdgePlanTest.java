@@ -373,6 +373,13 @@ public final class EdgePlanTest {
         for (int m = 0; m < 4; m++) {
             due("the other one can, worth(" + m + ")", y.worth(m), 0);
         }
+        LastCoat z = Checks.told("member 1 1;member 9 1;member 3 0;member 9 0;");
+        z.speaks(1, 1);
+        due("one against two: it takes both", z.carry(-1), NONE);
+        LastCoat u = Checks.told("member 1 1;member 9 1;member 3 0;");
+        u.speaks(1, 1);
+        due("who is FROZEN", u.worth(0), 0);
+        due("who alone can", u.worth(1), LACKING);
     }
 
     // the same: 1 .. 4 MINUTES more
