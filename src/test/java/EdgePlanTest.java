@@ -21,6 +21,7 @@ public final class EdgePlanTest {
         carryOfSixIsNone();
         carryTheFewestMinutes();
         carryTheFirstByMembers();
+        carryByOne();
         carryOfNobodyAndOfAllFrozen();
         carryAsksMinusOneToAnyGreatness();
         saveOfNoughtMinutes();
@@ -39,6 +40,7 @@ public final class EdgePlanTest {
         gameOfOneToFive();
         gameFirstWhomItMustChoose();
         gameOfASideThatHasNone();
+        gameOfASideThatHasOne();
         gameOfNobody();
         gameTakesWhatNoughtAndOne();
         CHECKS.end();
@@ -243,6 +245,26 @@ public final class EdgePlanTest {
         carry("0 keeps himself", x, 0, 0);
         LastCoat y = Checks.told("member 2 1;member 2 1;member 3 0;member 9 0;fur 1;");
         carry("0, then 1, then 0", y, 0, 1, 0);
+    }
+
+    // "if more .. than": by one, among six, of WARMTHS at their least and greatest
+    private static void carryByOne() {
+        for (int last = 1; last <= 20; last++) {
+            LastCoat x = Checks.told("member 1 0;member 9 0;member 9 0;member 9 1;member 9 1;member " + last + " 1;");
+            if (last == 1) {
+                carry("the last one must speak", x, 5);
+            } else {
+                carry("the last one at " + last, x, 1);
+            }
+        }
+        for (int last = 1; last <= 20; last++) {
+            LastCoat x = Checks.told("member 9 1;member 9 1;member 9 1;member 20 0;member 20 0;member " + last + " 0;");
+            if (last > 5) {
+                carryNone("the last one at " + last, x);
+            } else {
+                carry("the last one at " + last, x, new int[last]);
+            }
+        }
     }
 
     // "NONE": nobody is there, all are FROZEN, nobody is for it
@@ -510,6 +532,22 @@ public final class EdgePlanTest {
             // in the PAUSE 1 freezes, who does not wear the coat, and he is not needed any more
             game("two for it", Checks.told("member 2 1;member 2 1;member 1 0;fur 0;"), n, 1, 0);
         }
+    }
+
+    // "SIDES choose by turns .. one of their MEMBERS": who has one may not let a MINUTE go by
+    private static void gameOfASideThatHasOne() {
+        // behind a PAUSE 1 would be FROZEN, but 0 must speak, whom he seconds
+        LastCoat x = Checks.told("member 9 1;member 1 0;seconds 1 0;");
+        game("SIDE 1 must choose", x, 1, 0, NONE);
+        due("a PAUSE", x.pause(1), 1);
+        due("would do", x.vote(), 1);
+        // SIDE 0 has 5 alone left, whom all who are for it second
+        LastCoat y = Checks.told("member 2 1;member 2 1;member 2 1;member 1 0;member 1 0;member 9 0;seconds 0 5;"
+            + "seconds 1 5;seconds 2 5;fur 0;");
+        game("SIDE 0 must choose", y, 2, 1, 0);
+        y.speaks(0, 1);
+        due("a PAUSE", y.pause(1), 4);
+        due("would do", y.vote(), 0);
     }
 
     // "NONE (.. nobody"

@@ -15,6 +15,7 @@ public final class EdgeSpeechTest {
         theWearerGainsTwentyAtMost();
         whoDoesNotWearItLoses();
         warmthIsNeverLessThanNought();
+        eachHasHisOwnWarmth();
         frozenAtNoughtAlone();
         theFrozenGainAndLoseNothing();
         theFrozenCannotSpeak();
@@ -123,6 +124,34 @@ public final class EdgeSpeechTest {
                 x.pause(9);
                 due("behind ten MINUTES", x.member(0, 0), Math.max(0, warmth - 10 * cold));
             }
+        }
+    }
+
+    // WARMTH 0 .. 20, of each of six, whatever the others' is
+    private static void eachHasHisOwnWarmth() {
+        for (int m = 0; m < 6; m++) {
+            for (int cold = 0; cold <= 5; cold++) {
+                for (int his = 1; his <= 20; his++) {
+                    int others = 21 - his;
+                    String before = ("member " + others + " 0;").repeat(m);
+                    String behind = ("member " + others + " 0;").repeat(5 - m);
+                    LastCoat x = Checks.told(before + "member " + his + " 1;" + behind + "cold " + cold + ";fur 3;");
+                    x.pause(1);
+                    int left = Math.max(0, his - cold);
+                    int leftToOthers = Math.max(0, others - cold);
+                    each("a PAUSE, COLD " + cold, x, m, left, leftToOthers);
+                    int spoken = x.speaks(m, 2);
+                    due("speaks(" + m + ", 2), WARMTH " + left, spoken, left == 0 ? LastCoat.STATE : 2);
+                    each("a SPEECH, COLD " + cold, x, m, left == 0 ? 0 : Math.min(20, left + 6),
+                        left == 0 ? leftToOthers : Math.max(0, leftToOthers - 2 * cold));
+                }
+            }
+        }
+    }
+
+    private static void each(String when, LastCoat x, int m, int his, int others) {
+        for (int i = 0; i < 6; i++) {
+            due(when + ": WARMTH of " + i, x.member(i, 0), i == m ? his : others);
         }
     }
 
